@@ -95,7 +95,14 @@ public final class PoolsHall {
     }
 
     public int coupon(int price, int parts) {
-        int number = takeCoupon(price, parts);
+        int number = NONE;
+        reader.forgetFault();
+        if (isIn(price, 1, MOST_PRICE) && isIn(parts, 1, MOST_PARTS) && now.couponsHeld < MOST_COUPONS) {
+            LineSet lines = reader.readTape();
+            if (lines != null) {
+                number = now.addCoupon(new Coupon(lines, price, parts));
+            }
+        }
         tape.cutTo(0);
         return number;
     }
@@ -301,15 +308,6 @@ public final class PoolsHall {
         return home == 0 ? 2 : 3;
     }
 
-    private int takeCoupon(int price, int parts) {
-        reader.forgetFault();
-        if (!isIn(price, 1, MOST_PRICE) || !isIn(parts, 1, MOST_PARTS) || now.couponsHeld >= MOST_COUPONS) {
-            return NONE;
-        }
-        LineSet lines = reader.readTape();
-        return lines == null ? NONE : now.addCoupon(new Coupon(lines, price, parts));
-    }
-
     private int mostWorth() {
         int most = 0;
         for (int i = 0; i < OUTCOMES; i++) {
@@ -406,17 +404,13 @@ public final class PoolsHall {
             words = new long[WORDS];
         }
 
-        void becomeEmpty() {
-            Arrays.fill(words, 0L);
-        }
-
         void copyFrom(LineSet other) {
             System.arraycopy(other.words, 0, words, 0, WORDS);
         }
 
         /** All lines of so many of the matches of a mask. */
         void becomeChoices(int mask, int chosen) {
-            becomeEmpty();
+            Arrays.fill(words, 0L);
             int subsets = 1 << Integer.bitCount(mask & (NUMBERS - 1));
             int number = 0;
             for (int i = 0; i < subsets; i++) {
@@ -448,7 +442,7 @@ public final class PoolsHall {
 
         /** Each line of the first with each line of the second that has no match in common with it. */
         void becomeJoined(LineSet first, LineSet second) {
-            becomeEmpty();
+            Arrays.fill(words, 0L);
             // Which of them is the first makes no difference, so the smaller one goes line by line.
             boolean firstIsSmaller = first.sizeOfAll() < second.sizeOfAll();
             LineSet few = firstIsSmaller ? first : second;
@@ -486,7 +480,11 @@ public final class PoolsHall {
         }
 
         int sizeOfAll() {
-            return sizeUnder(NUMBERS);
+            int size = 0;
+            for (int w = 0; w < WORDS; w++) {
+                size += Long.bitCount(words[w]);
+            }
+            return size;
         }
 
         /** How many lines have a NUMBER below one of 0 .. NUMBERS. */
@@ -781,16 +779,12 @@ public final class PoolsHall {
                     first.takeAway(second);
                     break;
                 default:
-                    sets[height - 1] = joinIntoSpare(first, second);
+                    LineSet joined = spare == null ? new LineSet() : spare;
+                    joined.becomeJoined(first, second);
+                    sets[height - 1] = joined;
                     spare = first;
                     break;
             }
-        }
-
-        private LineSet joinIntoSpare(LineSet first, LineSet second) {
-            LineSet joined = spare == null ? new LineSet() : spare;
-            joined.becomeJoined(first, second);
-            return joined;
         }
     }
 

@@ -229,6 +229,16 @@ public final class PromisesTest {
         x.end(3);
         due("coupon()", x.coupon(1, 1), 0);
         due("line(0, 0)", x.line(0, 0), 3);
+        for (int n = 1; n <= 3; n += 2) {
+            x.feed(0x302E312E, 0x322E332E, 0x342E352E, 0x362E372E, 0x382E3039);
+            due("end(" + n + ") cuts a text off", x.end(n), true);
+            due("coupon()", x.coupon(1, 1), (n + 1) / 2);
+            due("its line", x.line((n + 1) / 2, 0), n);
+        }
+        x.feed(0x302E312E, 0, 0, 0, 0);
+        x.end(2);
+        due("coupon() of a text cut short", x.coupon(1, 1), -1);
+        due("fault(1)", x.fault(1), 2);
     }
 
     private static void coupon() {
@@ -713,6 +723,12 @@ public final class PromisesTest {
         due("divided(0, 0)", x.divided(0, 0), 90);
         due("divided(3, 2)", x.divided(3, 2), 8);
         due("divided(0, 3)", x.divided(0, 3), 0);
+        PoolsHall y = new PoolsHall();
+        for (int i = 0; i < 4; i++) {
+            due("dividend " + i, y.dividend(50 - i, 10, 1), i);
+        }
+        due("dividend 4 with numbers as told", y.dividend(20, 10, 1), -1);
+        due("count(2)", y.count(2), 4);
     }
 
     private static void repeal() {
@@ -916,6 +932,11 @@ public final class PromisesTest {
         }
         x.dividend(4, 1, 1);
         due("a new one had no winners", x.divided(1, 4), 0);
+        panelAll(x, 0);
+        Check.bet(x, "0", 10, 1);
+        due("settle() without winners", x.settle(), 0);
+        due("divided(0, 4) without winners", x.divided(0, 4), 0);
+        due("divided(0, 5) without winners", x.divided(0, 5), 0);
         for (int what : new int[] {-1, 6, LEAST_INT, MOST_INT}) {
             due("divided(0, " + what + ")", x.divided(0, what), -1);
         }
