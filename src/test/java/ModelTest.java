@@ -70,6 +70,10 @@ public final class ModelTest {
     }
 
     private void compare(Method[] both, Object[] arguments) throws IllegalAccessException {
+        // Nothing is promised behind an object's 512th call.
+        if (left == 0) {
+            return;
+        }
         left--;
         String call = both[0].getName() + Arrays.toString(arguments);
         Check.due(call, answer(both[0], hall, arguments), answer(both[1], naive, arguments));
@@ -142,7 +146,7 @@ public final class ModelTest {
     }
 
     private int couponNumber() {
-        return random.nextInt((int) hall.count(1) + 2) % 21;
+        return random.nextInt((int) naive.count(1) + 2) % 21;
     }
 
     private void decideAll() throws ReflectiveOperationException {
@@ -178,7 +182,7 @@ public final class ModelTest {
         call("coupon", 1 + random.nextInt(random.nextBoolean() ? 3 : 100), 1 + random.nextInt(9));
         call("fault", 0);
         call("fault", 1);
-        call("told", Math.max(0, (int) hall.count(1) - 1), random.nextInt(7));
+        call("told", Math.max(0, (int) naive.count(1) - 1), random.nextInt(7));
     }
 
     private String plan(int open) {
