@@ -1,5 +1,9 @@
 /** What the tests share: answers held against those that are due, and texts put on the tape. */
 final class Check {
+    static final String ALL = "0.1.2.3.4.5.6.7.8.9.10.11.12.13";
+    /** What told() of this class answers where PoolsHall throws. */
+    static final int THROWN = -99;
+
     private static int asked = 0;
     private static int wrong = 0;
     private static String section = "";
@@ -64,12 +68,41 @@ final class Check {
         return bet(x, text, 1, 1);
     }
 
-    /** told(), or -99 where it throws NoSuchElementException. */
+    /** told(), or THROWN where it throws NoSuchElementException. */
     static long told(PoolsHall x, int coupon, int what) {
         try {
             return x.told(coupon, what);
         } catch (java.util.NoSuchElementException e) {
-            return -99;
+            return THROWN;
         }
+    }
+
+    /** Gives every match the same panel. */
+    static void panelAll(PoolsHall x, int outcome) {
+        for (int m = 0; m < 14; m++) {
+            due("panel(" + m + ", " + outcome + ")", x.panel(m, outcome), true);
+        }
+    }
+
+    /** A text has a fault of a kind at a place, and is no coupon; or has none (0, 0), and is one. */
+    static void dueFault(String text, int kind, int place) {
+        PoolsHall x = new PoolsHall();
+        int number = bet(x, text);
+        due("coupon of " + text, number, kind == 0 ? 0 : -1);
+        due("fault(0) of " + text, x.fault(0), kind);
+        due("fault(1) of " + text, x.fault(1), place);
+        due("tape behind " + text, x.count(7), 0);
+        due("coupons behind " + text, x.count(1), kind == 0 ? 1 : 0);
+    }
+
+    /** A text means just these lines. */
+    static void dueLines(String text, int... numbers) {
+        PoolsHall x = new PoolsHall();
+        due("coupon of " + text, bet(x, text), 0);
+        due("lines of " + text, told(x, 0, 0), numbers.length);
+        for (int i = 0; i < numbers.length; i++) {
+            due("line " + i + " of " + text, x.line(0, i), numbers[i]);
+        }
+        due("line behind the last of " + text, x.line(0, numbers.length), -1);
     }
 }

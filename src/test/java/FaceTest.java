@@ -111,19 +111,22 @@ public final class FaceTest {
         long ahead = threads.getThreadAllocatedBytes(Thread.currentThread().getId());
         PoolsHall x = new PoolsHall();
         int taken = 0;
-        for (int call = 1; call < 512; call += 2) {
-            x.feed(n[0], n[1], n[2], n[3], n[4]);
-            taken += x.coupon(1, 1) >= 0 ? 1 : 0;
-            if (x.count(1) == 20) {
-                for (int m = 0; m < 14; m++) {
-                    x.panel(m, 0);
-                }
+        // Nine weeks of 40 calls for twenty coupons and 15 to settle them, and 17 calls more.
+        for (int call = 0; call < 512; call++) {
+            int inWeek = call % 55;
+            if (inWeek < 40 && inWeek % 2 == 0) {
+                x.feed(n[0], n[1], n[2], n[3], n[4]);
+            } else if (inWeek < 40) {
+                taken += x.coupon(1, 1) >= 0 ? 1 : 0;
+            } else if (inWeek < 54) {
+                x.panel(inWeek - 40, 0);
+            } else {
                 x.settle();
             }
         }
         long made = threads.getThreadAllocatedBytes(Thread.currentThread().getId()) - ahead;
-        Check.due("coupons taken", taken, 256);
-        // A set of lines takes some 2100 bytes: 256 coupons' and the reader's, and nothing else of note.
-        Check.due("bytes made are few: " + made, made < 700000, true);
+        Check.due("coupons taken", taken, 188);
+        // A set of lines takes some 2100 bytes: 188 coupons' and the reader's, and nothing else of note.
+        Check.due("bytes made are few: " + made, made < 500000, true);
     }
 }
